@@ -25,7 +25,7 @@ public final class RandomTest {
 
     public static void main(String[] args) {
         int first = args.length > 0 ? Integer.parseInt(args[0]) : 0;
-        int runs = args.length > 1 ? Integer.parseInt(args[1]) : 400;
+        int runs = args.length > 1 ? Integer.parseInt(args[1]) : 200;
         for (int i = first; i < first + runs; i++) {
             new RandomTest(i).play();
             new RandomTest(i).playDense();
