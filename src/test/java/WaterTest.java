@@ -116,6 +116,8 @@ public final class WaterTest {
         Checks.due("all goes down", 1, () -> x.trace(0, 100000));
         Checks.due("at last", 100000, () -> x.traced(8, 792));
         Checks.due("peak at last", 792, () -> x.peak(8));
+        Checks.due("the least amount too", 1, () -> x.trace(0, 1));
+        Checks.due("the least amount at last", 1, () -> x.traced(8, 792));
         Checks.due("no longer", 0, () -> x.traced(8, 793));
         Checks.due("nor at the end of time", 0, () -> x.traced(8, Integer.MAX_VALUE));
         Cavernbook y = Checks.withStations(2);
