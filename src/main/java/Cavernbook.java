@@ -18,6 +18,7 @@ public final class Cavernbook {
     private static final int PLAN_HOURS = 50;
     private static final int ENTRANCE = 0;
     private static final int NONE = -1;
+    private static final long SIGN_BIT = 1L << 63;
 
     private final Cave cave;
     private final Places places;
@@ -531,7 +532,7 @@ public final class Cavernbook {
     }
 
     private static boolean isLessUnsigned(long a, long b) {
-        return a + Long.MIN_VALUE < b + Long.MIN_VALUE;
+        return a + SIGN_BIT < b + SIGN_BIT;
     }
 
     /** The upper 64 of the 128 bits of a product, of which a times b are the lower ones. */
@@ -951,13 +952,13 @@ public final class Cavernbook {
 
         /** Divides by a divisor, rounding down; leaves the rest. Quotients here stay far below 2^60. */
         long takeQuotient(Wide by) {
-            int places = 0;
-            while (places < 60 && !isLessThan(by)) {
+            int doublings = 0;
+            while (doublings < 60 && !isLessThan(by)) {
                 by.twice();
-                places++;
+                doublings++;
             }
             long quotient = 0;
-            for (int i = 0; i < places; i++) {
+            for (int i = 0; i < doublings; i++) {
                 by.half();
                 quotient <<= 1;
                 if (!isLessThan(by)) {
