@@ -180,6 +180,8 @@ final class Model {
     private final List<int[]> conduits = new ArrayList<>();
     private final Map<Integer, TreeMap<Integer, Integer>> out = new HashMap<>();
     private final int[] rain = new int[200];
+    /** How the water stands by the rain told so far; null where that is not reckoned yet. */
+    private int[] standing = null;
     private final List<int[]> parties = new ArrayList<>();
     private final List<Set<Integer>> known = new ArrayList<>();
 
@@ -212,21 +214,22 @@ final class Model {
     }
 
     private int lowest(int station, int day) {
-        Set<Integer> one = new HashSet<>();
-        one.add(station);
+        boolean[] one = new boolean[9];
+        one[station] = true;
         boolean more = true;
         while (more) {
             more = false;
             for (int[] j : joins) {
-                if (j[2] <= day && (one.contains(j[0]) || one.contains(j[1]))) {
-                    more |= one.add(j[0]);
-                    more |= one.add(j[1]);
+                if (j[2] <= day && one[j[0]] != one[j[1]]) {
+                    one[j[0]] = true;
+                    one[j[1]] = true;
+                    more = true;
                 }
             }
         }
-        int low = station;
-        for (int i : one) {
-            low = Math.min(low, i);
+        int low = 0;
+        while (!one[low]) {
+            low++;
         }
         return low;
     }
@@ -339,9 +342,10 @@ final class Model {
         Day all = new Day(day, -1);
         int found = -1;
         Fraction most = Fraction.ZERO;
+        Fraction sum = all.sum();
         for (int i : all.between) {
             Day less = new Day(day, i);
-            Fraction by = all.sum().minus(less.sum());
+            Fraction by = sum.minus(less.sum());
             if (less.hung.equals(all.hung) && by.compare(most) > 0) {
                 most = by;
                 found = i;
@@ -468,11 +472,18 @@ final class Model {
         range(hour >= 0 && hour <= 199 && amount >= 0 && amount <= 99);
         int before = rain[hour];
         rain[hour] = amount;
+        standing = null;
         return before;
     }
 
     private int stands(int hour) {
-        return hour < 0 ? 0 : stands(hour - 1) * 3 / 4 + (hour < 200 ? rain[hour] : 0);
+        if (standing == null) {
+            standing = new int[401];
+            for (int h = 0; h <= 400; h++) {
+                standing[h] = (h == 0 ? 0 : standing[h - 1] * 3 / 4) + (h < 200 ? rain[h] : 0);
+            }
+        }
+        return standing[hour];
     }
 
     int water(int hour) {
