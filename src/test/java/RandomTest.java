@@ -8,6 +8,7 @@ public final class RandomTest {
     private final Cavernbook book = new Cavernbook();
     private final Model model = new Model();
     private final int run;
+    private int asked = 0;
     /** How wide steps are, how many days there are, how often a number is a wrong one. */
     private final int steps;
     private final int days;
@@ -139,9 +140,8 @@ public final class RandomTest {
         same("lastChance " + party, () -> book.lastChance(party), () -> model.lastChance(party));
         for (int i = 0; i < 51; i++) {
             int index = i;
-            Object want = Checks.answer(() -> model.planAt(party, index));
-            Checks.due("run " + run + ": step " + party + " " + i, want, () -> book.planAt(party, index));
-            if (want instanceof String) {
+            if (same("step " + party + " " + i, () -> book.planAt(party, index),
+                () -> model.planAt(party, index)) instanceof String) {
                 return;
             }
         }
@@ -165,9 +165,15 @@ public final class RandomTest {
         }
     }
 
-    private void same(String name, Checks.Call call, Checks.Call due) {
+    /** Asks both, and answers what is due; of the 513th call on nothing is promised, so that it is left out. */
+    private Object same(String name, Checks.Call call, Checks.Call due) {
+        if (asked == CALLS) {
+            return "asked enough";
+        }
+        asked++;
         Object want = Checks.answer(due);
         Checks.due("run " + run + ": " + name, want, call);
+        return want;
     }
 
     private boolean rarely() {

@@ -64,6 +64,12 @@ public final class SumsTest {
         x.rain(0, 0);
         x.rain(199, 0);
         Checks.arithmetic("none again", () -> x.meanRain());
+        x.rain(100, 1);
+        Checks.due("the least", 1.0, () -> x.meanRain());
+        x.rain(101, 2);
+        Checks.due("an hour of 1 is one with rain", 1.5, () -> x.meanRain());
+        x.rain(102, 1);
+        Checks.due("a mean that no double holds", 4.0 / 3.0, () -> x.meanRain());
     }
 
     private static void sound() {
