@@ -63,7 +63,7 @@ final class Checks {
     static void finish() {
         System.out.println(made + " answers, " + wrong + " wrong");
         if (wrong > 0 || made == 0) {
-            System.exit(1);
+            throw new AssertionError(wrong + " wrong answers of " + made);
         }
     }
 }

@@ -39,6 +39,14 @@ public final class OrderTest {
         index("no from, both the same", Books::roomy, x -> x.shot(8, 8, 0, 1, 1, 1, 1, 1));
         index("no from, range", Books::roomy, x -> x.shot(-1, 1, 1000, 1, 1, 1, 1, 1));
         index("no to, range", Books::roomy, x -> x.shot(1, 8, 0, 1000, 1, 1, 1, 1));
+        int[][] wrong = {{1000, 1, 1, 1, 1, 1}, {0, -1000, 1, 1, 1, 1}, {0, 1, 1000, 1, 1, 1}, {0, 1, 1, 1000, 1, 1},
+            {0, 1, 1, 1, 0, 1}, {0, 1, 1, 1, 1, 5}};
+        for (int i = 0; i < wrong.length; i++) {
+            int[] w = wrong[i];
+            index("no from, number " + i, Books::roomy, x -> x.shot(8, 1, w[0], w[1], w[2], w[3], w[4], w[5]));
+            index("no to, number " + i, Books::roomy, x -> x.shot(1, 8, w[0], w[1], w[2], w[3], w[4], w[5]));
+            argument("number " + i + ", 24 shots", Books::full, x -> x.shot(0, 1, w[0], w[1], w[2], w[3], w[4], w[5]));
+        }
         index("no from, 24 shots", Books::full, x -> x.shot(9, 1, 0, 1, 1, 1, 1, 1));
         index("no to, 24 shots", Books::full, x -> x.shot(1, -1, 0, 1, 1, 1, 1, 1));
         index("no station, range, 24 shots", Books::full, x -> x.shot(9, 9, -1, 1, 1, -1000, 0, 0));

@@ -106,6 +106,14 @@ public final class PartiesTest {
         Checks.due("from a station that is one with it", 0, () -> x.go(0, 1));
         Checks.due("to the lowest of them", 1, () -> x.go(0, 1));
         Checks.due("place", 1, () -> x.placeOf(0));
+        x.party(3);
+        Checks.due("by a join of a day and one over it", 0, () -> x.go(1, 1));
+        Cavernbook y = Checks.withStations(3);
+        y.shot(1, 0, 0, 0, 0, 0, 1, 1);
+        y.party(2);
+        Checks.unsupported("not from there", () -> y.go(0, 0));
+        y.join(1, 2, 999);
+        Checks.due("by a join of the last day", 0, () -> y.go(0, 0));
     }
 
     private static void goingOrder() {

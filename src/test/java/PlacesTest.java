@@ -11,6 +11,7 @@ public final class PlacesTest {
         faultExceptions();
         blunder();
         blunderKeepsAllHung();
+        blunderIsNoWayIn();
         lengthAndDepth();
         dayRanges();
         greatNumbers();
@@ -145,6 +146,19 @@ public final class PlacesTest {
         Checks.due("in a loop now", 2, () -> x.blunder(1));
         x.join(1, 2, 2);
         Checks.due("a shot of no use is none", 0, () -> x.blunder(2));
+    }
+
+    /** Without the shot 0, which leads to it, the one bad loop would not be hung, so that no fault were left. */
+    private static void blunderIsNoWayIn() {
+        Cavernbook x = Checks.withStations(3);
+        x.shot(0, 1, 0, 10, 0, 0, 1, 1);
+        x.shot(1, 2, 0, 10, 0, 0, 1, 1);
+        x.shot(2, 1, 0, 10, 0, 0, 1, 1);
+        Checks.due("of the loop, not the way to it", 1, () -> x.blunder(0));
+        x.shot(1, 0, 1, -20, 0, 0, 1, 1);
+        Checks.due("the worse loop is the one behind", 1, () -> x.blunder(1));
+        x.setAside(2, 2);
+        Checks.due("the way in is a loop by itself", 0, () -> x.blunder(2));
     }
 
     private static void lengthAndDepth() {

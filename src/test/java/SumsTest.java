@@ -9,6 +9,7 @@ public final class SumsTest {
         shares();
         meanRain();
         sound();
+        soundPlans();
         Checks.finish();
     }
 
@@ -87,5 +88,23 @@ public final class SumsTest {
         Checks.due("in between", true, () -> x.isSound(12));
         Checks.argument("day -1", () -> x.isSound(-1));
         Checks.argument("day 1000", () -> x.isSound(1000));
+    }
+
+    /** Plans that wait for the water to fall, and plans that are out ahead of it, go along no closed shot. */
+    private static void soundPlans() {
+        Cavernbook x = Checks.withStations(2);
+        x.shot(0, 1, 0, 1, 1, 1, 1, 1);
+        x.sump(0, 1);
+        x.party(0);
+        x.party(1);
+        Checks.due("no plan", true, () -> x.isSound(0));
+        x.tell(1, 0);
+        x.rain(1, 99);
+        Checks.due("out ahead of the water", 1, () -> x.plan(1));
+        Checks.due("so it is sound", true, () -> x.isSound(0));
+        x.rain(0, 99);
+        Checks.due("closed at first", true, () -> x.isClosed(0, 0));
+        Checks.due("a plan that waits", -1, () -> x.planAt(1, 0));
+        Checks.due("so it is sound too", true, () -> x.isSound(999));
     }
 }

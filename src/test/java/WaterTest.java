@@ -11,6 +11,7 @@ public final class WaterTest {
         longestTrace();
         traceExceptions();
         rainAndWater();
+        waterThatStays();
         sumps();
         Checks.finish();
     }
@@ -120,6 +121,10 @@ public final class WaterTest {
         Checks.due("the least amount at last", 1, () -> x.traced(8, 792));
         Checks.due("no longer", 0, () -> x.traced(8, 793));
         Checks.due("nor at the end of time", 0, () -> x.traced(8, Integer.MAX_VALUE));
+        for (int m = 794; m < 1194; m++) {
+            int minute = m + 792;
+            Checks.due("nothing comes again in " + minute, 0, () -> x.traced(8, minute));
+        }
         Cavernbook y = Checks.withStations(2);
         y.setHeight(1, 1);
         y.conduit(1, 0, 7, 50);
@@ -171,6 +176,26 @@ public final class WaterTest {
         Checks.due("dry", 0, () -> x.water(1));
     }
 
+    /** By 1 in each hour the water stays as it is, from 1 to 4: what an early hour tells is seen to the last one. */
+    private static void waterThatStays() {
+        Cavernbook x = new Cavernbook();
+        for (int hour = 199; hour >= 0; hour--) {
+            x.rain(hour, 1);
+        }
+        Checks.due("1 stays", 1, () -> x.water(199));
+        for (int most : new int[] {2, 3, 4, 99}) {
+            int stays = Math.min(most, 4);
+            x.rain(0, most);
+            Checks.due("stays by " + most, stays, () -> x.water(199));
+            Checks.due("an hour behind the rain by " + most, stays * 3 / 4, () -> x.water(200));
+        }
+        x.rain(0, 1);
+        Checks.due("1 again", 1, () -> x.water(199));
+        x.rain(100, 0);
+        Checks.due("an hour without rain", 0, () -> x.water(100));
+        Checks.due("and 1 again", 1, () -> x.water(101));
+    }
+
     private static void sumps() {
         Cavernbook x = Checks.withStations(2);
         Checks.index("no shot", () -> x.sump(0, -1));
@@ -195,5 +220,8 @@ public final class WaterTest {
         Checks.argument("isClosed hour -1", () -> x.isClosed(0, -1));
         Checks.argument("isClosed hour 401", () -> x.isClosed(0, 401));
         Checks.due("isClosed hour 400", false, () -> x.isClosed(0, 400));
+        x.setAside(0, 0);
+        Checks.due("set aside is not closed", false, () -> x.isClosed(0, 400));
+        Checks.due("but it is by water", true, () -> x.isClosed(0, 0));
     }
 }
