@@ -16,7 +16,8 @@ import java.util.concurrent.TimeoutException;
 
 /**
  * Each sentence of the Terms and of the promises has a test that fails if the sentence is broken: breaks.txt breaks
- * them one by one, and here each break is compiled, and the test that it names is run against it.
+ * them one by one, and here each break is compiled, and the test that it names is run against it. The first sentence
+ * of "What it is" is but a title.
  */
 public final class BreaksTest {
     private static final Path DOCUMENT = Path.of("..", "shared", "DOC.md");
@@ -46,14 +47,17 @@ public final class BreaksTest {
 
     // ---- the document
 
-    /** The sentences of the Terms and the paragraphs of each promise, by the heads of these parts. */
+    /** The sentences of the Terms and of what it is, and the paragraphs of each promise, by the heads of these. */
     private static Map<String, List<String>> sentences(String text) {
         Map<String, List<String>> parts = new TreeMap<>();
         for (String part : text.split("(?m)^## ")) {
             String head = part.lines().findFirst().orElse("");
             String body = part.substring(head.length()).replaceAll("<h2>.*?</h2>", "");
-            if (head.equals("Terms")) {
-                parts.put(head, List.of(plain(body).split("(?<=\\.) ")));
+            List<String> all = List.of(plain(body).split("(?<=\\.) "));
+            if (head.equals("What it is")) {
+                parts.put(head, all.subList(1, all.size()));
+            } else if (head.equals("Terms")) {
+                parts.put(head, all);
             } else if (head.startsWith("Promise ")) {
                 parts.put(head, paragraphs(body));
             }

@@ -1,7 +1,10 @@
+import java.io.IOException;
 import java.lang.reflect.Constructor;
 import java.lang.reflect.Field;
 import java.lang.reflect.Method;
 import java.lang.reflect.Modifier;
+import java.nio.file.Files;
+import java.nio.file.Path;
 import java.util.Arrays;
 import java.util.HashSet;
 import java.util.Set;
@@ -19,7 +22,8 @@ public final class FaceTest {
     private FaceTest() {
     }
 
-    public static void main(String[] args) {
+    public static void main(String[] args) throws IOException {
+        asTheDocumentTells();
         Set<String> want = new TreeSet<>();
         add(want, "int station()", S);
         add(want, "int shot(int,int,int,int,int,int,int,int)", I, A, S);
@@ -69,6 +73,21 @@ public final class FaceTest {
         Checks.due("private methods with a public name", "[]", () -> sharedNames().toString());
         Checks.due("classes inside that are public or not static", 0, () -> classesThatShow());
         Checks.finish();
+    }
+
+    /** Each line of the document's face is a head in the source, with its names and its throws as they stand there. */
+    private static void asTheDocumentTells() throws IOException {
+        String document = Files.readString(Path.of("..", "shared", "DOC.md"));
+        String face = document.substring(document.indexOf("public final class Cavernbook {"));
+        String source = Files.readString(Path.of("src", "main", "java", "Cavernbook.java")).replaceAll("\\s+", " ");
+        int heads = 0;
+        for (String line : face.substring(0, face.indexOf("\n}")).split("\n")) {
+            String head = line.strip().replaceAll(";$", " {");
+            Checks.due("in the source: " + head, true, () -> source.contains(head));
+            heads++;
+        }
+        int found = heads;
+        Checks.due("the class, its constructor and 39 methods", 41, () -> found);
     }
 
     private static void add(Set<String> want, String head, String... thrown) {

@@ -23,6 +23,8 @@ public final class TermsTest {
         fiftyHours();
         firstPlan();
         lastChances();
+        manyCalls();
+        manyOfOneCall();
         Checks.finish();
     }
 
@@ -420,5 +422,31 @@ public final class TermsTest {
         Checks.noElement("the water stands still", () -> x.plan(0));
         x.sump(1, 0);
         Checks.due("without the sump", 56, () -> x.lastChance(0));
+    }
+
+    /** "An object is used for at most 512 calls": 4, 199 times 2, 110. */
+    private static void manyCalls() {
+        Cavernbook x = Checks.withStations(2);
+        x.shot(0, 1, 0, 0, 0, 0, 1, 1);
+        x.party(0);
+        for (int hour = 0; hour < 199; hour++) {
+            int then = hour;
+            Checks.due("no rain yet in " + then, 0, () -> x.rain(then, then % 2));
+            Checks.due("to and fro in " + then, 1 - then % 2, () -> x.go(0, 0));
+        }
+        for (int hour = 0; hour < 110; hour++) {
+            int then = hour;
+            Checks.due("the water in " + then, then % 2, () -> x.water(then));
+        }
+    }
+
+    /** 2, 1, 1, and 508 of one kind, of which the last answers as the first. */
+    private static void manyOfOneCall() {
+        Cavernbook x = Checks.withStations(2);
+        x.shot(0, 1, 0, 0, 0, 0, 1, 1);
+        x.party(1);
+        for (int i = 0; i < 508; i++) {
+            Checks.due("told once more " + i, 1, () -> x.tell(0, 0));
+        }
     }
 }
