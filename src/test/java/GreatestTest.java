@@ -20,6 +20,7 @@ public final class GreatestTest {
         farthestBothWays();
         manyTrees();
         strongAgainstWeak();
+        sumsBeyondLong();
         greatestSum();
         steps();
         lengths();
@@ -114,6 +115,29 @@ public final class GreatestTest {
         Checks.due("all", 141959556878L, () -> x.allFaults(0));
         Checks.due("blunder", 23, () -> x.blunder(0));
         Checks.due("depth", 426402L, () -> x.depth(0));
+    }
+
+    /**
+     * Sums whose fractions can be told apart only by products beyond 64 bits, and whose tops alone tell otherwise:
+     * without another shot than the blunder the top is the least, as the bottom is less by still more.
+     */
+    private static void sumsBeyondLong() {
+        long[][] rows = {{1629, 1415, 1931, 1724, 3, 39658548629L}, {60, 1722, 954, 1590, 2, 20033841003L},
+            {1932, 511, 1330, 107, 0, 15431346109L}, {27, 1498, 444, 836, 12, 40176036958L}};
+        for (long[] row : rows) {
+            Cavernbook x = Checks.withStations(9);
+            for (int i = 0; i < 24; i++) {
+                int[] steps = new int[3];
+                for (int axis = 0; axis < 3; axis++) {
+                    long far = row[0] * i * i + row[1] * i + row[2] * axis * axis + row[3] * axis * i;
+                    steps[axis] = (int) (far % 1999) - 999;
+                }
+                x.shot(i % 9, (i % 9 + 1 + i / 9) % 9, 0, steps[0], steps[1], steps[2], 1,
+                    1 + (int) ((i * i + row[0]) % 4));
+            }
+            Checks.due("blunder of " + row[0], (int) row[4], () -> x.blunder(0));
+            Checks.due("all of " + row[0], row[5], () -> x.allFaults(0));
+        }
     }
 
     private static void greatestSum() {

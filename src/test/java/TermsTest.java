@@ -11,6 +11,7 @@ public final class TermsTest {
         hungOverOthers();
         leastSum();
         blunders();
+        equalBlunders();
         depthRoundedDown();
         heightsAreNoPlaces();
         hundredthsOfOneAmount();
@@ -165,6 +166,22 @@ public final class TermsTest {
         x.setAside(1, 6);
         x.setAside(2, 6);
         Checks.noElement("nothing is left over", () -> x.blunder(6));
+    }
+
+    /** The same sum is left without either shot of a loop, as a fraction of another bottom each; a worse loop wins. */
+    private static void equalBlunders() {
+        for (int weight : new int[] {1, 4}) {
+            Cavernbook x = Checks.withStations(4);
+            x.shot(0, 3, 0, 1, 0, 0, 1, 1);
+            x.shot(0, 3, 0, 2, 0, 0, 1, 2);
+            x.shot(0, 1, 1, 10, 0, 0, 1, weight);
+            x.shot(1, 0, 1, -20, 0, 0, 1, 5 - weight);
+            x.shot(0, 2, 2, 0, 11, 0, 1, 3);
+            x.shot(2, 0, 2, 0, 0, 0, 1, 3);
+            Checks.due("the lowest of the small loop " + weight, 0, () -> x.blunder(0));
+            Checks.due("the lowest of the greater loop " + weight, 2, () -> x.blunder(1));
+            Checks.due("less by most " + weight, 4, () -> x.blunder(2));
+        }
     }
 
     /** Thirds of a step, up and down. */

@@ -5,6 +5,7 @@ public final class WaterTest {
 
     public static void main(String[] args) {
         heights();
+        heightsOfOthers();
         conduits();
         conduitOrder();
         traces();
@@ -35,6 +36,25 @@ public final class WaterTest {
         Checks.due("nothing changed", 5, () -> x.setHeight(1, 9));
         Checks.due("just above", 9, () -> x.setHeight(1, 1));
         Checks.due("as it is", 1, () -> x.setHeight(1, 1));
+    }
+
+    /** A height is held against the conduits of its own station only, whatever their numbers. */
+    private static void heightsOfOthers() {
+        int[][] ways = {{0, 1, 2}, {0, 2, 1}, {1, 0, 2}, {1, 2, 0}, {2, 0, 1}, {2, 1, 0}};
+        for (int[] w : ways) {
+            Cavernbook x = Checks.withStations(3);
+            String name = "of " + w[2] + " beside " + w[0] + " to " + w[1];
+            x.setHeight(w[0], 600);
+            x.setHeight(w[1], 400);
+            x.conduit(w[0], w[1], 1, 1);
+            Checks.due("least " + name, 0, () -> x.setHeight(w[2], 0));
+            Checks.due("greatest " + name, 0, () -> x.setHeight(w[2], 999));
+            Checks.due("between " + name, 999, () -> x.setHeight(w[2], 500));
+            Checks.unsupported("the upper one " + name, () -> x.setHeight(w[0], 400));
+            Checks.due("the upper one, just above " + name, 600, () -> x.setHeight(w[0], 401));
+            Checks.unsupported("the lower one " + name, () -> x.setHeight(w[1], 401));
+            Checks.due("the lower one far below " + name, 400, () -> x.setHeight(w[1], 0));
+        }
     }
 
     private static void conduits() {
