@@ -8,7 +8,10 @@ import java.util.regex.Matcher;
 import java.util.regex.Pattern;
 import java.util.stream.Stream;
 
-/** The example of README.md is compiled and run as it tells, and prints what stands behind its lines. */
+/**
+ * The example of README.md is compiled and run as it tells, and prints what stands behind its lines; and each file of
+ * the tests is named there.
+ */
 public final class ReadmeTest {
     private static final Path README = Path.of("README.md");
     private static final Path SOURCE = Path.of("src", "main", "java", "Cavernbook.java");
@@ -30,7 +33,18 @@ public final class ReadmeTest {
         } finally {
             remove(place);
         }
+        namesEveryTest(text);
         Checks.finish();
+    }
+
+    private static void namesEveryTest(String text) throws IOException {
+        try (Stream<Path> files = Files.list(Path.of("src", "test", "java"))) {
+            for (Path file : files.sorted().toList()) {
+                String name = file.getFileName().toString();
+                String plain = "`" + name.replaceAll("\\.java$", "") + "`";
+                Checks.due("is named: " + name, true, () -> text.contains(plain) || text.contains("`" + name + "`"));
+            }
+        }
     }
 
     private static String block(String text, String kind) {
